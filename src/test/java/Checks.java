@@ -1,0 +1,110 @@
+import java.util.function.IntSupplier;
+
+/** Counts and prints the answers that are not the ones due, and shows an object's state as text. */
+final class Checks {
+    static final Class<IndexOutOfBoundsException> INDEX = IndexOutOfBoundsException.class;
+    static final Class<IllegalArgumentException> ARGUMENT = IllegalArgumentException.class;
+    static final Class<IllegalStateException> STATE = IllegalStateException.class;
+
+    private int wrong = 0;
+
+    void due(String what, Object got, Object want) {
+        if (!want.equals(got)) {
+            wrong++;
+            System.out.println(what + ": answered " + got + ", due is " + want);
+        }
+    }
+
+    /** The class must be this one exactly: what the machine throws is often a class below it. */
+    void dueThrow(String what, Class<? extends RuntimeException> want, IntSupplier call) {
+        due(what, answerOf(call), "throws." + want.getSimpleName());
+    }
+
+    static String answerOf(IntSupplier call) {
+        try {
+            return Integer.toString(call.getAsInt());
+        } catch (RuntimeException e) {
+            return "throws." + e.getClass().getSimpleName();
+        }
+    }
+
+    void end() {
+        System.out.println(wrong == 0 ? "all answers are as due" : wrong + " answers are not as due");
+        if (wrong != 0) {
+            System.exit(1);
+        }
+    }
+
+    static RowDiffer withRows(int[]... rows) {
+        RowDiffer x = new RowDiffer();
+        for (int row = 0; row < rows.length; row++) {
+            fill(x, row, rows[row]);
+        }
+        return x;
+    }
+
+    static int[] row(int... numbers) {
+        return numbers;
+    }
+
+    static int[] countUp(int from, int count) {
+        int[] numbers = new int[count];
+        for (int k = 0; k < count; k++) {
+            numbers[k] = from + k;
+        }
+        return numbers;
+    }
+
+    static void fill(RowDiffer x, int row, int... numbers) {
+        x.wipe(row);
+        for (int v : numbers) {
+            x.add(row, v);
+        }
+    }
+
+    static String rowText(int... numbers) {
+        StringBuilder text = new StringBuilder();
+        for (int v : numbers) {
+            text.append(v).append(' ');
+        }
+        return text.toString().trim();
+    }
+
+    static String rowText(RowDiffer x, int row) {
+        StringBuilder text = new StringBuilder();
+        for (int place = 0; place < x.length(row); place++) {
+            text.append(x.number(row, place)).append(' ');
+        }
+        return text.toString().trim();
+    }
+
+    /** Each step as kind, i, j and number, such as K0,0:7. */
+    static String scriptText(RowDiffer x) {
+        StringBuilder text = new StringBuilder();
+        for (int k = 0; k < x.steps(); k++) {
+            text.append("KEI".charAt(x.step(k, 0))).append(x.step(k, 1)).append(',').append(x.step(k, 2));
+            text.append(':').append(x.step(k, 3)).append(' ');
+        }
+        return text.toString().trim();
+    }
+
+    /** Each hunk as i, j, how many it erases and how many it inserts, such as 0,0-2+1. */
+    static String hunksText(RowDiffer x) {
+        StringBuilder text = new StringBuilder();
+        for (int k = 0; k < x.hunks(); k++) {
+            text.append(x.hunk(k, 0)).append(',').append(x.hunk(k, 1));
+            text.append('-').append(x.hunk(k, 2)).append('+').append(x.hunk(k, 3)).append(' ');
+        }
+        return text.toString().trim();
+    }
+
+    /** Each entry as number, inserted, erased and place in base, such as 7+1-0@-1. */
+    static String mergeText(RowDiffer x, int entries) {
+        StringBuilder text = new StringBuilder();
+        for (int k = 0; k < entries; k++) {
+            text.append(x.entry(k, 0)).append('+').append(x.entry(k, 1));
+            text.append('-').append(x.entry(k, 2)).append('@').append(x.entry(k, 3)).append(' ');
+        }
+        return text.toString().trim();
+    }
+}
