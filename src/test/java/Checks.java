@@ -8,11 +8,13 @@ final class Checks {
 
     private int wrong = 0;
 
-    void due(String what, Object got, Object want) {
-        if (!want.equals(got)) {
+    boolean due(String what, Object got, Object want) {
+        boolean isRight = want.equals(got);
+        if (!isRight) {
             wrong++;
             System.out.println(what + ": answered " + got + ", due is " + want);
         }
+        return isRight;
     }
 
     /** The class must be this one exactly: what the machine throws is often a class below it. */

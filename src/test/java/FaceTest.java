@@ -65,7 +65,8 @@ public final class FaceTest {
         for (Class<?> thrown : method.getExceptionTypes()) {
             text.append(' ').append(thrown.getSimpleName());
         }
-        boolean isAsDue = method.getReturnType() == int.class && Modifier.toString(method.getModifiers()).equals("public");
+        boolean isAsDue = method.getReturnType() == int.class
+                && Modifier.toString(method.getModifiers()).equals("public");
         return isAsDue ? text.toString() : method.toString();
     }
 }

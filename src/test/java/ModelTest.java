@@ -13,6 +13,8 @@ public final class ModelTest {
     private final RowDiffer x = new RowDiffer();
     private final Model model = new Model();
     private int calls = 0;
+    /** Behind a wrong answer object and model may differ, and what follows tells nothing new. */
+    private boolean isRight = true;
 
     private ModelTest(int seed) {
         random = new Random(seed);
@@ -32,9 +34,9 @@ public final class ModelTest {
         for (int row = 0; row < 3; row++) {
             fill(row, random.nextInt(most + 1));
         }
-        while (calls < CALLS) {
+        while (calls < CALLS && isRight) {
             change();
-            for (int k = 0; k < 4 && calls < CALLS; k++) {
+            for (int k = 0; k < 4 && calls < CALLS && isRight; k++) {
                 look();
             }
         }
@@ -102,6 +104,6 @@ public final class ModelTest {
 
     private void same(String call, IntSupplier got, IntSupplier want) {
         calls++;
-        checks.due(name + "call " + calls + ", " + call, Checks.answerOf(got), Checks.answerOf(want));
+        isRight &= checks.due(name + "call " + calls + ", " + call, Checks.answerOf(got), Checks.answerOf(want));
     }
 }

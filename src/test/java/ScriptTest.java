@@ -11,6 +11,7 @@ public final class ScriptTest {
         scriptOfRowItself();
         costLimit();
         longestScript();
+        choiceFarBehind();
         diffOfNoRow();
         scriptStaysWhenRowsChange();
         stepsAreCounted();
@@ -100,6 +101,18 @@ public final class ScriptTest {
         checks.due("8: its last step", x.step(169, 0) + " " + x.step(169, 1) + " " + x.step(169, 3), "0 119 119");
         checks.due("11: what it makes", x.apply(0, 2, false), 120);
         checks.due("11: its numbers", Checks.rowText(x, 2), Checks.rowText(b));
+    }
+
+    /** The choice at the last places is another one than that between the last place of a and an early one of b. */
+    private static void choiceFarBehind() {
+        int[] a = Checks.countUp(0, 120);
+        int[] b = Checks.countUp(0, 120);
+        a[119] = 80;
+        b[119] = 1000;
+        RowDiffer x = Checks.withRows(a, b);
+        checks.due("6: cost of a choice far behind", x.diff(0, 1), 2);
+        checks.due("8: ERASE first", x.step(119, 0) + " " + x.step(119, 3), "1 80");
+        checks.due("8: then INSERT", x.step(120, 0) + " " + x.step(120, 3), "2 1000");
     }
 
     private static void diffOfNoRow() {
