@@ -1,4 +1,5 @@
 import java.util.function.IntSupplier;
+import java.util.function.IntUnaryOperator;
 
 /** Counts and prints the answers that are not the ones due, and shows an object's state as text. */
 final class Checks {
@@ -6,13 +7,38 @@ final class Checks {
     static final Class<IllegalArgumentException> ARGUMENT = IllegalArgumentException.class;
     static final Class<IllegalStateException> STATE = IllegalStateException.class;
 
+    static final int[] NO_ROWS = outside(8);
+    static final int[] NO_PROPERTIES = outside(4);
+    static final int[] NO_SETS = outside(4);
+
+    /** No merge has more, so that a search for the end of one ends. */
+    private static final int MOST_ENTRIES = 360;
+
     private int wrong = 0;
+    private String heading = "";
+
+    /** One test: what it throws is a wrong answer of its own, and the tests behind it run all the same. */
+    void run(Runnable test) {
+        heading = "";
+        try {
+            test.run();
+        } catch (RuntimeException e) {
+            wrong++;
+            System.out.println(heading + "threw " + e);
+            e.printStackTrace(System.out);
+        }
+    }
+
+    /** Names the promise, and quotes of it the words that the checks from here on look at. */
+    void promise(int number, String words) {
+        heading = "promise " + number + ", \"" + words + "\": ";
+    }
 
     boolean due(String what, Object got, Object want) {
         boolean isRight = want.equals(got);
         if (!isRight) {
             wrong++;
-            System.out.println(what + ": answered " + got + ", due is " + want);
+            System.out.println(heading + what + ": answered " + got + ", due is " + want);
         }
         return isRight;
     }
@@ -20,6 +46,18 @@ final class Checks {
     /** The class must be this one exactly: what the machine throws is often a class below it. */
     void dueThrow(String what, Class<? extends RuntimeException> want, IntSupplier call) {
         due(what, answerOf(call), "throws." + want.getSimpleName());
+    }
+
+    /** The properties 0, 1, .. of one step, hunk or entry. */
+    void dueProperties(String what, IntUnaryOperator property, int... want) {
+        for (int k = 0; k < want.length; k++) {
+            due(what + ", " + k, property.applyAsInt(k), want[k]);
+        }
+    }
+
+    /** Whether two calls answer, or throw, the same. */
+    boolean same(String what, IntSupplier got, IntSupplier want) {
+        return due(what, answerOf(got), answerOf(want));
     }
 
     static String answerOf(IntSupplier call) {
@@ -43,6 +81,11 @@ final class Checks {
             fill(x, row, rows[row]);
         }
         return x;
+    }
+
+    /** What is no index where a count of things stands: just outside it, and as far outside as can be. */
+    static int[] outside(int count) {
+        return new int[] {-1, count, count + 1, Integer.MIN_VALUE, Integer.MAX_VALUE};
     }
 
     static int[] row(int... numbers) {
@@ -101,12 +144,27 @@ final class Checks {
     }
 
     /** Each entry as number, inserted, erased and place in base, such as 7+1-0@-1. */
-    static String mergeText(RowDiffer x, int entries) {
+    static String mergeText(RowDiffer x) {
         StringBuilder text = new StringBuilder();
-        for (int k = 0; k < entries; k++) {
+        for (int k = 0; k < MOST_ENTRIES && isEntry(x, k); k++) {
             text.append(x.entry(k, 0)).append('+').append(x.entry(k, 1));
             text.append('-').append(x.entry(k, 2)).append('@').append(x.entry(k, 3)).append(' ');
         }
         return text.toString().trim();
+    }
+
+    private static boolean isEntry(RowDiffer x, int k) {
+        return !answerOf(() -> x.entry(k, 0)).startsWith("throws.");
+    }
+
+    /** All that an object can be asked for: its rows, its script with the hunks, its merge with the conflicts. */
+    static String stateText(RowDiffer x) {
+        StringBuilder text = new StringBuilder();
+        for (int row = 0; row < 8; row++) {
+            text.append(rowText(x, row)).append(" | ");
+        }
+        text.append(x.steps()).append(" steps ").append(scriptText(x)).append(" | ");
+        text.append(x.hunks()).append(" hunks ").append(hunksText(x)).append(" | ");
+        return text.append(mergeText(x)).append(' ').append(x.conflicts()).append(" conflicts").toString();
     }
 }

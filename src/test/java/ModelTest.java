@@ -104,6 +104,6 @@ public final class ModelTest {
 
     private void same(String call, IntSupplier got, IntSupplier want) {
         calls++;
-        isRight &= checks.due(name + "call " + calls + ", " + call, Checks.answerOf(got), Checks.answerOf(want));
+        isRight &= checks.same(name + "call " + calls + ", " + call, got, want);
     }
 }
