@@ -1,3 +1,4 @@
+import java.util.List;
 import java.util.function.IntSupplier;
 import java.util.function.IntUnaryOperator;
 
@@ -10,6 +11,10 @@ final class Checks {
     static final int[] NO_ROWS = outside(8);
     static final int[] NO_PROPERTIES = outside(4);
     static final int[] NO_SETS = outside(4);
+
+    /** What promises 1 to 15 are of, in their order. */
+    private static final List<String> PROMISED = List.of("RowDiffer", "add", "wipe", "length", "number", "diff",
+            "steps", "step", "hunks", "hunk", "apply", "merge", "entry", "conflicts", "see");
 
     /** No merge has more, so that a search for the end of one ends. */
     private static final int MOST_ENTRIES = 360;
@@ -32,6 +37,11 @@ final class Checks {
     /** Names the promise, and quotes of it the words that the checks from here on look at. */
     void promise(int number, String words) {
         heading = "promise " + number + ", \"" + words + "\": ";
+    }
+
+    /** The number of the promise of a call, by the call's name. */
+    static int promiseOf(String call) {
+        return PROMISED.indexOf(call) + 1;
     }
 
     boolean due(String what, Object got, Object want) {

@@ -6,6 +6,7 @@ public final class MergeEdgesTest {
         checks.run(MergeEdgesTest::mergeOfEmptyRows);
         checks.run(MergeEdgesTest::mergeAtTheBeginningAndBehindTheEnd);
         checks.run(MergeEdgesTest::mergeOfSameBeginnings);
+        checks.run(MergeEdgesTest::mergeBehindLargerMerge);
         checks.run(MergeEdgesTest::mergeOfNumbersThatAreNearlyTheSame);
         checks.run(MergeEdgesTest::mergeOfErasedNumbers);
         checks.run(MergeEdgesTest::mergeOfOneRow);
@@ -84,6 +85,20 @@ public final class MergeEdgesTest {
         dueMerge(Checks.row(), Checks.row(1, 2), Checks.row(2), "1+1-0@-1 2+1-0@-1 2+2-0@-1");
         // The same number at another place of base is no same beginning.
         dueMerge(Checks.row(1), Checks.row(8, 1), Checks.row(1, 8), "8+1-0@-1 1+0-0@0 8+2-0@-1");
+    }
+
+    /** What both sides inserted in the merge before must not count as inserted by both now. */
+    private static void mergeBehindLargerMerge() {
+        checks.promise(12, "so far as the beginnings of these two rows are the same");
+        RowDiffer x = Checks.withRows(Checks.row(), Checks.row(7), Checks.row(7, 8));
+        x.merge(0, 2, 2);
+        checks.due("left's is shorter now", x.merge(0, 1, 2) + ":" + Checks.mergeText(x), "2:7+3-0@-1 8+2-0@-1");
+        x.merge(0, 2, 2);
+        checks.due("right's is shorter now", x.merge(0, 2, 1) + ":" + Checks.mergeText(x), "2:7+3-0@-1 8+1-0@-1");
+        x.merge(0, 2, 2);
+        checks.due("left has none now", x.merge(0, 0, 2) + ":" + Checks.mergeText(x), "2:7+2-0@-1 8+2-0@-1");
+        x.merge(0, 2, 2);
+        checks.due("right has none now", x.merge(0, 2, 0) + ":" + Checks.mergeText(x), "2:7+1-0@-1 8+1-0@-1");
     }
 
     private static void mergeOfNumbersThatAreNearlyTheSame() {

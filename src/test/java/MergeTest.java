@@ -12,12 +12,16 @@ public final class MergeTest {
         RowDiffer x = Checks.withRows(base, left, right);
         String name = Checks.rowText(base) + " to " + Checks.rowText(left) + " and " + Checks.rowText(right);
         int count = entries.isEmpty() ? 0 : entries.split(" ").length;
-        checks.due("12: entries of " + name, x.merge(0, 1, 2), count);
-        checks.due("12, 13: merge of " + name, Checks.mergeText(x), entries);
-        checks.due("14: conflicts of " + name, x.conflicts(), conflicts);
-        checks.due("15: base seen of " + name, x.see(0, 3) + ":" + Checks.rowText(x, 3), textWithCount(base));
-        checks.due("15: left seen of " + name, x.see(1, 3) + ":" + Checks.rowText(x, 3), textWithCount(left));
-        checks.due("15: right seen of " + name, x.see(2, 3) + ":" + Checks.rowText(x, 3), textWithCount(right));
+        checks.promise(12, "Makes the merge of rows: how many entries it has");
+        checks.due("entries of " + name, x.merge(0, 1, 2), count);
+        checks.promise(13, "Of entry k of the merge that was made last");
+        checks.due("merge of " + name, Checks.mergeText(x), entries);
+        checks.promise(14, "How many conflicts that merge has");
+        checks.due("conflicts of " + name, x.conflicts(), conflicts);
+        checks.promise(15, "Row into becomes the numbers of the entries that are seen with a set of sides");
+        checks.due("base seen of " + name, x.see(0, 3) + ":" + Checks.rowText(x, 3), textWithCount(base));
+        checks.due("left seen of " + name, x.see(1, 3) + ":" + Checks.rowText(x, 3), textWithCount(left));
+        checks.due("right seen of " + name, x.see(2, 3) + ":" + Checks.rowText(x, 3), textWithCount(right));
     }
 
     private static String textWithCount(int[] numbers) {
@@ -52,10 +56,11 @@ public final class MergeTest {
 
     private static void entryProperties() {
         RowDiffer x = Checks.withRows(Checks.row(10, 11), Checks.row(10, 12), Checks.row(10, 11, 13));
-        checks.due("12: count", x.merge(0, 1, 2), 4);
-        checks.dueProperties("13: entry 0", what -> x.entry(0, what), 10, 0, 0, 0);
-        checks.dueProperties("13: entry 1", what -> x.entry(1, what), 11, 0, 1, 1);
-        checks.dueProperties("13: entry 2", what -> x.entry(2, what), 12, 1, 0, -1);
-        checks.dueProperties("13: entry 3", what -> x.entry(3, what), 13, 2, 0, -1);
+        checks.promise(13, "its number (what = 0), inserted (1), erased (2), its place in base, or -1 (3)");
+        x.merge(0, 1, 2);
+        checks.dueProperties("entry 0", what -> x.entry(0, what), 10, 0, 0, 0);
+        checks.dueProperties("entry 1", what -> x.entry(1, what), 11, 0, 1, 1);
+        checks.dueProperties("entry 2", what -> x.entry(2, what), 12, 1, 0, -1);
+        checks.dueProperties("entry 3", what -> x.entry(3, what), 13, 2, 0, -1);
     }
 }

@@ -104,6 +104,7 @@ public final class ModelTest {
 
     private void same(String call, IntSupplier got, IntSupplier want) {
         calls++;
-        isRight &= checks.same(name + "call " + calls + ", " + call, got, want);
+        int promise = Checks.promiseOf(call.split(" ")[0]);
+        isRight &= checks.same("promise " + promise + ", " + name + "call " + calls + ", " + call, got, want);
     }
 }

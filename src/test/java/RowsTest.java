@@ -12,47 +12,52 @@ public final class RowsTest {
     }
 
     private static void objectsShareNothing() {
+        checks.promise(1, "Rows without numbers; no script, no merge");
         RowDiffer x = Checks.withRows(Checks.row(1, 2));
         x.diff(0, 1);
         x.merge(0, 0, 1);
         RowDiffer y = new RowDiffer();
-        checks.due("1: length in another object", y.length(0), 0);
-        checks.due("1: steps in another object", y.steps(), -1);
-        checks.due("1: conflicts in another object", y.conflicts(), -1);
+        checks.due("length in another object", y.length(0), 0);
+        checks.due("steps in another object", y.steps(), -1);
+        checks.due("conflicts in another object", y.conflicts(), -1);
     }
 
     private static void addPutsBehind() {
+        checks.promise(2, "Puts a number behind a row: how many it has then");
         RowDiffer x = new RowDiffer();
-        checks.due("2: first", x.add(0, 5), 1);
-        checks.due("2: second", x.add(0, Integer.MIN_VALUE), 2);
-        checks.due("2: third", x.add(0, Integer.MAX_VALUE), 3);
-        checks.due("2: last row", x.add(7, -1), 1);
-        checks.due("2: row 0", Checks.rowText(x, 0), "5 -2147483648 2147483647");
-        checks.due("2: row 7", Checks.rowText(x, 7), "-1");
-        checks.due("2: row 1", Checks.rowText(x, 1), "");
+        checks.due("first", x.add(0, 5), 1);
+        checks.due("second", x.add(0, Integer.MIN_VALUE), 2);
+        checks.due("third", x.add(0, Integer.MAX_VALUE), 3);
+        checks.due("last row", x.add(7, -1), 1);
+        checks.due("row 0", Checks.rowText(x, 0), "5 -2147483648 2147483647");
+        checks.due("row 7", Checks.rowText(x, 7), "-1");
+        checks.due("row 1", Checks.rowText(x, 1), "");
     }
 
     private static void wipeTakesAway() {
+        checks.promise(3, "Takes a row's numbers away: how many there were");
         RowDiffer x = Checks.withRows(Checks.row(1, 2, 3), Checks.row(4, 5));
-        checks.due("3: wipe", x.wipe(0), 3);
-        checks.due("3: length then", x.length(0), 0);
-        checks.due("3: wipe again", x.wipe(0), 0);
-        checks.due("3: other row", Checks.rowText(x, 1), "4 5");
-        checks.due("3: add then", x.add(0, 6), 1);
-        checks.due("3: row then", Checks.rowText(x, 0), "6");
+        checks.due("wipe", x.wipe(0), 3);
+        checks.due("length then", x.length(0), 0);
+        checks.due("wipe again", x.wipe(0), 0);
+        checks.due("other row", Checks.rowText(x, 1), "4 5");
+        checks.due("add then", x.add(0, 6), 1);
+        checks.due("row then", Checks.rowText(x, 0), "6");
     }
 
     private static void lengthOfRows() {
+        checks.promise(4, "How many numbers a row has");
         RowDiffer x = Checks.withRows(Checks.row(1, 2, 3), Checks.row(4));
-        checks.due("4: three", x.length(0), 3);
-        checks.due("4: one", x.length(1), 1);
+        checks.due("three", x.length(0), 3);
+        checks.due("one", x.length(1), 1);
     }
 
     private static void numberOfRows() {
+        checks.promise(5, "A number of a row");
         RowDiffer x = Checks.withRows(Checks.row(11, 12, 13), Checks.row(14));
-        checks.due("5: first", x.number(0, 0), 11);
-        checks.due("5: second", x.number(0, 1), 12);
-        checks.due("5: last", x.number(0, 2), 13);
-        checks.due("5: other row", x.number(1, 0), 14);
+        checks.due("first", x.number(0, 0), 11);
+        checks.due("second", x.number(0, 1), 12);
+        checks.due("last", x.number(0, 2), 13);
+        checks.due("other row", x.number(1, 0), 14);
     }
 }

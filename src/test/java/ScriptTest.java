@@ -17,9 +17,12 @@ public final class ScriptTest {
     private static void dueScript(int[] a, int[] b, int cost, String script, String hunks) {
         RowDiffer x = Checks.withRows(a, b);
         String name = Checks.rowText(a) + " to " + Checks.rowText(b);
-        checks.due("6: cost of " + name, x.diff(0, 1), cost);
-        checks.due("6, 8: script of " + name, Checks.scriptText(x), script);
-        checks.due("9, 10: hunks of " + name, Checks.hunksText(x), hunks);
+        checks.promise(6, "Makes the script from row a to row b (which may be the same): its cost");
+        checks.due("cost of " + name, x.diff(0, 1), cost);
+        checks.promise(8, "Of step k of it");
+        checks.due("script of " + name, Checks.scriptText(x), script);
+        checks.promise(10, "Of hunk k");
+        checks.due("hunks of " + name, Checks.hunksText(x), hunks);
     }
 
     private static void scriptsOfSmallRows() {
@@ -46,55 +49,61 @@ public final class ScriptTest {
     }
 
     private static void stepsAreCounted() {
+        checks.promise(7, "How many steps the script has that was made last; -1 if none was");
         RowDiffer x = Checks.withRows(BEFORE, AFTER);
-        checks.due("7: no script", x.steps(), -1);
+        checks.due("no script", x.steps(), -1);
         x.diff(0, 1);
-        checks.due("7: a script", x.steps(), 9);
+        checks.due("a script", x.steps(), 9);
         x.diff(2, 3);
-        checks.due("7: the empty script", x.steps(), 0);
+        checks.due("the empty script", x.steps(), 0);
         x.diff(1, 1);
-        checks.due("7: the last one counts", x.steps(), 6);
+        checks.due("the last one counts", x.steps(), 6);
     }
 
     private static void stepProperties() {
+        checks.promise(8, "0 KEEP, 1 ERASE, 2 INSERT (what = 0), i (1) and j (2) before it, the number (3)");
         RowDiffer x = Checks.withRows(Checks.row(5, 6), Checks.row(5, 7));
         x.diff(0, 1);
-        checks.dueProperties("8: step 0", what -> x.step(0, what), 0, 0, 0, 5);
-        checks.dueProperties("8: step 1", what -> x.step(1, what), 1, 1, 1, 6);
-        checks.dueProperties("8: step 2", what -> x.step(2, what), 2, 2, 1, 7);
+        checks.dueProperties("step 0", what -> x.step(0, what), 0, 0, 0, 5);
+        checks.dueProperties("step 1", what -> x.step(1, what), 1, 1, 1, 6);
+        checks.dueProperties("step 2", what -> x.step(2, what), 2, 2, 1, 7);
     }
 
     private static void hunksAreCounted() {
+        checks.promise(9, "How many hunks it has; -1 if there is no script");
         RowDiffer x = Checks.withRows(BEFORE, AFTER);
-        checks.due("9: no script", x.hunks(), -1);
+        checks.due("no script", x.hunks(), -1);
         x.diff(0, 1);
-        checks.due("9: a script", x.hunks(), 4);
+        checks.due("a script", x.hunks(), 4);
         x.diff(2, 3);
-        checks.due("9: the empty script", x.hunks(), 0);
+        checks.due("the empty script", x.hunks(), 0);
         x.diff(0, 2);
-        checks.due("9: one hunk of all", x.hunks(), 1);
+        checks.due("one hunk of all", x.hunks(), 1);
     }
 
     private static void hunkProperties() {
+        checks.promise(10, "i (what = 0) and j (1) before it, how many it erases (2), how many it inserts (3)");
         RowDiffer x = Checks.withRows(Checks.row(1, 2, 3, 4, 5), Checks.row(1, 7, 8, 9, 4, 6));
         x.diff(0, 1);
-        checks.due("9: two hunks", x.hunks(), 2);
-        checks.dueProperties("10: hunk 0", what -> x.hunk(0, what), 1, 1, 2, 3);
-        checks.dueProperties("10: hunk 1", what -> x.hunk(1, what), 4, 5, 1, 1);
+        checks.due("two hunks", x.hunks(), 2);
+        checks.dueProperties("hunk 0", what -> x.hunk(0, what), 1, 1, 2, 3);
+        checks.dueProperties("hunk 1", what -> x.hunk(1, what), 4, 5, 1, 1);
     }
 
     private static void applyBothWays() {
+        checks.promise(11, "Row into becomes what the script makes of a row (back = false),"
+                + " or that of which it makes a row (back = true)");
         RowDiffer x = Checks.withRows(BEFORE, AFTER, Checks.countUp(0, 9), Checks.row(1));
         x.diff(0, 1);
-        checks.due("11: forwards", x.apply(0, 2, false), 6);
-        checks.due("11: row then", Checks.rowText(x, 2), Checks.rowText(AFTER));
-        checks.due("11: backwards", x.apply(1, 3, true), 7);
-        checks.due("11: row then", Checks.rowText(x, 3), Checks.rowText(BEFORE));
-        checks.due("11: source stays", Checks.rowText(x, 0), Checks.rowText(BEFORE));
-        checks.due("11: another row with the same numbers", x.apply(3, 4, false), 6);
-        checks.due("11: script stays", x.steps(), 9);
+        checks.due("forwards", x.apply(0, 2, false), 6);
+        checks.due("row then", Checks.rowText(x, 2), Checks.rowText(AFTER));
+        checks.due("backwards", x.apply(1, 3, true), 7);
+        checks.due("row then", Checks.rowText(x, 3), Checks.rowText(BEFORE));
+        checks.due("source stays", Checks.rowText(x, 0), Checks.rowText(BEFORE));
+        checks.due("another row with the same numbers", x.apply(3, 4, false), 6);
+        checks.due("script stays", x.steps(), 9);
         x.diff(6, 7);
-        checks.due("11: the empty script", x.apply(6, 0, false), 0);
-        checks.due("11: row then", x.length(0), 0);
+        checks.due("the empty script", x.apply(6, 0, false), 0);
+        checks.due("row then", x.length(0), 0);
     }
 }
